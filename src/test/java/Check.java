@@ -1,0 +1,67 @@
+/** Counts answers that are due and answers that are not, and prints each one that is not. */
+final class Check {
+    interface Call {
+        double answer();
+    }
+
+    interface LongCall {
+        long answer();
+    }
+
+    private int passed = 0;
+    private int failed = 0;
+
+    void same(String what, long want, LongCall call) {
+        String got;
+        try {
+            got = Long.toString(call.answer());
+        } catch (RuntimeException e) {
+            got = "throws " + e.getClass().getSimpleName();
+        }
+        note(what, Long.toString(want), got);
+    }
+
+    void sameDouble(String what, double want, Call call) {
+        String got;
+        try {
+            got = Double.toString(call.answer());
+        } catch (RuntimeException e) {
+            got = "throws " + e.getClass().getSimpleName();
+        }
+        note(what, Double.toString(want), got);
+    }
+
+    void holds(String what, boolean asDue) {
+        note(what, "true", Boolean.toString(asDue));
+    }
+
+    /** The call throws just this exception, and the digest tells that nothing has changed by it. */
+    void refuses(ShipJournal journal, String what, Class<?> want, LongCall call) {
+        long before = journal.digest();
+        String got;
+        try {
+            got = Long.toString(call.answer());
+        } catch (RuntimeException e) {
+            got = "throws " + e.getClass().getSimpleName();
+        }
+        note(what, "throws " + want.getSimpleName(), got);
+        note(what + ", and nothing changes", Long.toString(before), Long.toString(journal.digest()));
+    }
+
+    private void note(String what, String want, String got) {
+        if (want.equals(got)) {
+            passed++;
+        } else {
+            failed++;
+            System.out.println(what + ": answered " + got + ", due is " + want);
+        }
+    }
+
+    /** Prints the counts, and ends the program with 1 if an answer was not as due. */
+    void close(String name) {
+        System.out.println(name + ": " + passed + " answers as due, " + failed + " not");
+        if (failed > 0 || passed == 0) {
+            System.exit(1);
+        }
+    }
+}
