@@ -1,6 +1,6 @@
 /** Counts answers that are due and answers that are not, and prints each one that is not. */
 final class Check {
-    interface Call {
+    interface DoubleCall {
         double answer();
     }
 
@@ -12,16 +12,10 @@ final class Check {
     private int failed = 0;
 
     void same(String what, long want, LongCall call) {
-        String got;
-        try {
-            got = Long.toString(call.answer());
-        } catch (RuntimeException e) {
-            got = "throws " + e.getClass().getSimpleName();
-        }
-        note(what, Long.toString(want), got);
+        note(what, Long.toString(want), outcome(call));
     }
 
-    void sameDouble(String what, double want, Call call) {
+    void sameDouble(String what, double want, DoubleCall call) {
         String got;
         try {
             got = Double.toString(call.answer());
@@ -38,14 +32,16 @@ final class Check {
     /** The call throws just this exception, and the digest tells that nothing has changed by it. */
     void refuses(ShipJournal journal, String what, Class<?> want, LongCall call) {
         long before = journal.digest();
-        String got;
-        try {
-            got = Long.toString(call.answer());
-        } catch (RuntimeException e) {
-            got = "throws " + e.getClass().getSimpleName();
-        }
-        note(what, "throws " + want.getSimpleName(), got);
+        note(what, "throws " + want.getSimpleName(), outcome(call));
         note(what + ", and nothing changes", Long.toString(before), Long.toString(journal.digest()));
+    }
+
+    private static String outcome(LongCall call) {
+        try {
+            return Long.toString(call.answer());
+        } catch (RuntimeException e) {
+            return "throws " + e.getClass().getSimpleName();
+        }
     }
 
     private void note(String what, String want, String got) {
