@@ -10,6 +10,16 @@ final class Check {
 
     private int passed = 0;
     private int failed = 0;
+    private String caseName = "";
+
+    /** From here on, what is printed names this case. */
+    void startCase(String name) {
+        caseName = name + ": ";
+    }
+
+    int answers() {
+        return passed + failed;
+    }
 
     void same(String what, long want, LongCall call) {
         note(what, Long.toString(want), outcome(call));
@@ -36,6 +46,14 @@ final class Check {
         note(what + ", and nothing changes", Long.toString(before), Long.toString(journal.digest()));
     }
 
+    /** The call answers as due and saves one state on top of those saved before it: undo brings all back. */
+    void savesOne(ShipJournal journal, String what, int savedBefore, long want, LongCall call) {
+        long before = journal.digest();
+        same(what, want, call);
+        same(what + ", and saves one state", savedBefore, journal::undo);
+        same(what + ", and is undone", before, journal::digest);
+    }
+
     private static String outcome(LongCall call) {
         try {
             return Long.toString(call.answer());
@@ -49,7 +67,7 @@ final class Check {
             passed++;
         } else {
             failed++;
-            System.out.println(what + ": answered " + got + ", due is " + want);
+            System.out.println(caseName + what + ": answered " + got + ", due is " + want);
         }
     }
 

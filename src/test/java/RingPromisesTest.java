@@ -3,7 +3,7 @@ public final class RingPromisesTest {
     private static final Class<?> ARGUMENT = IllegalArgumentException.class;
     private static final Class<?> STATE = IllegalStateException.class;
     private static final Class<?> INDEX = IndexOutOfBoundsException.class;
-    private static final int[] NO_SHIPS = {-1, 2, 3, Integer.MIN_VALUE, Integer.MAX_VALUE};
+    private static final int[] NO_SHIPS = Journals.NO_SHIPS;
 
     private static final Check CHECK = new Check();
 
@@ -24,24 +24,12 @@ public final class RingPromisesTest {
         CHECK.close("RingPromisesTest");
     }
 
-    private static void loads(ShipJournal j, int count) {
-        for (int i = 0; i < count; i++) {
-            j.write(0, i % 8, 0, 10);
-        }
-    }
-
     private static void holdsAre(String what, ShipJournal j, int ship, int... tons) {
-        for (int hold = 0; hold < tons.length; hold++) {
-            int h = hold;
-            CHECK.same(what + ", hold " + h, tons[h], () -> j.hold(ship, h));
-        }
+        Journals.holdsAre(CHECK, what, j, ship, tons);
     }
 
     private static void valuesAre(String what, ShipJournal j, int... values) {
-        for (int i = 0; i < values.length; i++) {
-            int v = i;
-            CHECK.same(what + ", value " + v, values[v], () -> j.value(v));
-        }
+        Journals.valuesAre(CHECK, what, j, values);
     }
 
     private static void promise1() {
@@ -67,7 +55,7 @@ public final class RingPromisesTest {
         ShipJournal j = new ShipJournal();
         CHECK.same("2: begin(4) of nothing", 0, () -> j.begin(4));
         valuesAre("2: begin(4)", j, 4, 0, 0, 0, 0, 0, 0);
-        loads(j, 4);
+        Journals.loads(j, 4);
         j.spoil(3, 0);
         j.spoil(3, 1);
         j.spoil(0, 1);
@@ -86,7 +74,7 @@ public final class RingPromisesTest {
             CHECK.same("2: ship(1, " + w + ") is as at first", w == 2 ? 1 : 0, () -> j.ship(1, w));
         }
         CHECK.same("2: snapshots are empty", 0, () -> j.tonsAt(0, 0));
-        loads(j, 4);
+        Journals.loads(j, 4);
         CHECK.same("2: new orders have sound copies", 0, () -> j.value(4));
         j.replay(0, 9);
         CHECK.same("2: a crash after begin falls to position 0", 4, () -> j.crash(0));
@@ -98,7 +86,7 @@ public final class RingPromisesTest {
 
     private static void promise2KeepsTextAndSavedStates() {
         ShipJournal j = new ShipJournal();
-        loads(j, 1);
+        Journals.loads(j, 1);
         j.append('c');
         CHECK.same("2: begin(5)", 1, () -> j.begin(5));
         CHECK.same("2: the text stays", 2, () -> j.append('0'));
@@ -110,14 +98,14 @@ public final class RingPromisesTest {
 
     private static void promise2ForgetsSpoiledCopies() {
         ShipJournal j = new ShipJournal();
-        loads(j, 4);
-        spoilBoth(j, 0);
+        Journals.loads(j, 4);
+        Journals.spoilBoth(j, 0);
         j.spoil(1, 0);
         CHECK.same("2: begin(6)", 4, () -> j.begin(6));
         valuesAre("2: begin behind spoiling", j, 6, 0, 0, 0, 0, 0, 0);
         CHECK.same("2: nothing is there to repair", 0, j::repair);
         CHECK.same("2: no ship stops", 0, () -> j.stop(0));
-        loads(j, 1);
+        Journals.loads(j, 1);
         valuesAre("2: the copies next to the newest order are no copies", j, 6, 0, 1, 1, 0, 0, 0);
         CHECK.same("2: and nothing to repair", 0, j::repair);
     }
@@ -133,7 +121,7 @@ public final class RingPromisesTest {
         CHECK.same("3: b of an unload is 0", 0, () -> j.order(1, 2));
         CHECK.same("3: b of a move stays", 7, () -> j.order(2, 2));
         CHECK.same("3: the newer end", 5, () -> j.value(2));
-        loads(j, 3);
+        Journals.loads(j, 3);
         CHECK.refuses(j, "3: the ninth order", STATE, () -> j.write(0, 0, 0, 1));
         CHECK.refuses(j, "3: a wrong order comes before a full ring", ARGUMENT, () -> j.write(5, 0, 0, 1));
         j.replay(0, 99);
@@ -168,7 +156,7 @@ public final class RingPromisesTest {
 
     private static void promise3Refuses() {
         ShipJournal j = new ShipJournal();
-        loads(j, 2);
+        Journals.loads(j, 2);
         int[][] wrong = {{-1, 0, 1, 1}, {5, 0, 1, 1}, {0, -1, 0, 1}, {0, 8, 0, 1}, {0, 0, -1, 1}, {0, 0, 8, 1},
             {1, 0, 8, 1}, {4, 0, 8, 1}, {2, 8, 0, 1}, {0, 0, 0, 0}, {0, 0, 0, 100}, {3, 0, 1, -1}, {2, 1, 1, 1},
             {3, 0, 0, 1}, {4, 7, 7, 1}, {Integer.MIN_VALUE, 0, 1, 1}, {0, Integer.MAX_VALUE, 0, 1},
@@ -184,7 +172,7 @@ public final class RingPromisesTest {
     private static void promise4() {
         ShipJournal j = new ShipJournal();
         CHECK.refuses(j, "4: nothing is kept", INDEX, () -> j.spoil(0, 0));
-        loads(j, 4);
+        Journals.loads(j, 4);
         CHECK.same("4: copy 1", 1, () -> j.spoil(2, 1));
         CHECK.same("4: copy 1 again", 1, () -> j.spoil(2, 1));
         CHECK.same("4: which copy", 2, () -> j.order(2, 4));
@@ -215,20 +203,15 @@ public final class RingPromisesTest {
         CHECK.same("4: the oldest kept order", 2, () -> j.spoil(2, 0));
     }
 
-    private static void spoilBoth(ShipJournal j, int position) {
-        j.spoil(position, 0);
-        j.spoil(position, 1);
-    }
-
     private static void promise5() {
         ShipJournal j = new ShipJournal();
         CHECK.same("5: nothing to repair", 0, j::repair);
-        loads(j, 6);
+        Journals.loads(j, 6);
         j.replay(0, 3);
         j.replay(1, 2);
-        spoilBoth(j, 1);
-        spoilBoth(j, 2);
-        spoilBoth(j, 3);
+        Journals.spoilBoth(j, 1);
+        Journals.spoilBoth(j, 2);
+        Journals.spoilBoth(j, 3);
         j.spoil(4, 0);
         j.spoil(5, 1);
         j.link(0, false);
@@ -251,7 +234,7 @@ public final class RingPromisesTest {
         j.crash(0);
         CHECK.same("5: a ship that crashed has not replayed it any more", 0, j::repair);
         j.link(1, false);
-        spoilBoth(j, 0);
+        Journals.spoilBoth(j, 0);
         CHECK.same("5: the position counts, not the link alone", 0, j::repair);
     }
 
@@ -298,11 +281,11 @@ public final class RingPromisesTest {
     private static void promise6() {
         ShipJournal j = new ShipJournal();
         CHECK.same("6: nothing is written", 0, () -> j.replay(0, 1));
-        loads(j, 6);
+        Journals.loads(j, 6);
         CHECK.same("6: so many", 2, () -> j.replay(0, 2));
         CHECK.same("6: its position", 2, () -> j.ship(0, 0));
         CHECK.same("6: not the other ship's", 0, () -> j.ship(1, 0));
-        spoilBoth(j, 4);
+        Journals.spoilBoth(j, 4);
         j.spoil(3, 1);
         CHECK.same("6: up to the order that cannot be read", 2, () -> j.replay(0, 99));
         CHECK.same("6: no further", 0, () -> j.replay(0, 1));
@@ -327,7 +310,7 @@ public final class RingPromisesTest {
     private static void promise7() {
         ShipJournal j = new ShipJournal();
         CHECK.same("7: at first", 0, () -> j.snapshot(0));
-        loads(j, 6);
+        Journals.loads(j, 6);
         j.replay(0, 4);
         j.replay(1, 3);
         CHECK.same("7: the other snapshot holds the older end", 0, () -> j.snapshot(0));
@@ -354,7 +337,7 @@ public final class RingPromisesTest {
     private static void promise8() {
         ShipJournal j = new ShipJournal();
         CHECK.same("8: at first", 0, () -> j.crash(1));
-        loads(j, 6);
+        Journals.loads(j, 6);
         j.replay(0, 2);
         j.snapshot(0);
         j.replay(0, 3);

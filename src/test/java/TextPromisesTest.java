@@ -16,18 +16,12 @@ public final class TextPromisesTest {
         promise24AfterEach();
         promise24OverwrittenOrders();
         promise25();
+        promise25OfASpoiledRing();
         CHECK.close("TextPromisesTest");
     }
 
-    private static void put(ShipJournal j, String text) {
-        j.clearText();
-        for (int i = 0; i < text.length(); i++) {
-            j.append(text.charAt(i));
-        }
-    }
-
     private static void carries(ShipJournal j, String text, int want) {
-        put(j, text);
+        Journals.put(j, text);
         CHECK.same("23: \"" + text + "\"", want, j::carryOut);
     }
 
@@ -49,7 +43,7 @@ public final class TextPromisesTest {
     private static void promise22() {
         ShipJournal j = new ShipJournal();
         CHECK.same("22: no text", 0, j::clearText);
-        put(j, "x;y");
+        Journals.put(j, "x;y");
         CHECK.same("22: the length it had", 3, j::clearText);
         CHECK.same("22: it is empty", 0, j::clearText);
         CHECK.same("22: and can be filled anew", 1, () -> j.append('t'));
@@ -127,7 +121,7 @@ public final class TextPromisesTest {
         CHECK.same("23: the text stays at undo", 20, j::clearText);
         carries(j, "m00,1;", 0);
         CHECK.same("23: a stop at once saves a state", 0, j::undo);
-        put(j, "l0,1;l0,100;");
+        Journals.put(j, "l0,1;l0,100;");
         long before = j.digest();
         CHECK.same("23: a syntax error", -20, j::carryOut);
         CHECK.same("23: nothing changes by it", before, j::digest);
@@ -135,7 +129,6 @@ public final class TextPromisesTest {
     }
 
     private static void promise23SyntaxErrors() {
-        ShipJournal j = new ShipJournal();
         Object[][] wrong = {
             {"x", 0}, {" ", 0}, {";", 0}, {"0", 0}, {"L0,1;", 0}, {"k0,1;", 0}, {"\0", 0}, {"\177", 0},
             {"l", 1}, {"l8,1;", 1}, {"l,1;", 1}, {"l/,1;", 1}, {"l 0,1;", 1}, {"l-1,1;", 1},
@@ -156,14 +149,16 @@ public final class TextPromisesTest {
             {"l0,1;u0,1;m01,1;r00;", 18}, {"l0,1;m00,5;l0,0;", 14},
         };
         for (Object[] w : wrong) {
+            ShipJournal j = new ShipJournal();
             carries(j, (String) w[0], -10 - (Integer) w[1]);
+            CHECK.refuses(j, "23: no syntax error saves a state", STATE, j::undo);
+            CHECK.same("23: no syntax error writes an order", 0, () -> j.value(2));
         }
-        CHECK.refuses(j, "23: no syntax error saves a state", STATE, j::undo);
-        CHECK.same("23: no syntax error writes an order", 0, () -> j.value(2));
         StringBuilder longest = new StringBuilder();
         for (int i = 0; i < 100; i++) {
             longest.append(i % 5 == 0 ? 'u' : i % 5 == 1 ? '7' : i % 5 == 2 ? ',' : i % 5 == 3 ? '1' : ';');
         }
+        ShipJournal j = new ShipJournal();
         carries(j, longest.toString(), 8);
         carries(j, longest.substring(0, 99), -109);
         carries(j, longest.substring(0, 95) + "l0,12", -110);
@@ -188,7 +183,7 @@ public final class TextPromisesTest {
         CHECK.same("24: and undone", 0, j::undo);
         j.replay(0, 2);
         j.snapshot(0);
-        put(j, "c0;");
+        Journals.put(j, "c0;");
         j.carryOut();
         j.link(0, false);
         CHECK.same("24: of the link", 3, j::undo);
@@ -272,7 +267,7 @@ public final class TextPromisesTest {
         j.spoil(4, 1);
         j.spoil(3, 0);
         j.link(0, false);
-        put(j, "r19;t1;c1;l0,5;");
+        Journals.put(j, "r19;t1;c1;l0,5;");
         // Leaves three saved states, so that the next one drops none.
         j.begin(4);
         j.undo();
@@ -281,60 +276,38 @@ public final class TextPromisesTest {
 
     private static void promise25() {
         ShipJournal j = new ShipJournal();
-        CHECK.same("25: a new object", digestOf(j, 0, 0), j::digest);
-        put(j, "l0,9");
-        CHECK.same("25: the text's length", digestOf(j, 4, 0), j::digest);
+        CHECK.same("25: a new object", Journals.digestDue(j, 0, 0), j::digest);
+        Journals.put(j, "l0,9");
+        CHECK.same("25: the text's length", Journals.digestDue(j, 4, 0), j::digest);
         j.begin(12);
-        CHECK.same("25: a saved state", digestOf(j, 4, 1), j::digest);
+        CHECK.same("25: a saved state", Journals.digestDue(j, 4, 1), j::digest);
+        writeNine(j);
+        CHECK.same("25: orders and holds", Journals.digestDue(j, 4, 4), j::digest);
+        CHECK.same("25: asking again", j.digest(), j::digest);
+    }
+
+    private static void writeNine(ShipJournal j) {
         for (int i = 0; i < 9; i++) {
             j.write(i % 5, i % 8, (i + 3) % 8, 90 + i);
         }
         j.replay(0, 4);
         j.replay(1, 6);
-        CHECK.same("25: orders and holds", digestOf(j, 4, 4), j::digest);
+    }
+
+    private static void promise25OfASpoiledRing() {
+        ShipJournal j = new ShipJournal();
+        j.begin(12);
+        writeNine(j);
         j.snapshot(0);
         j.snapshot(1);
         j.crash(0);
         j.spoil(5, 0);
-        CHECK.same("25: freed orders", digestOf(j, 4, 4), j::digest);
+        CHECK.same("25: freed orders", Journals.digestDue(j, 0, 4), j::digest);
         j.spoil(5, 1);
-        CHECK.same("25: an unreadable order", digestOf(j, 4, 4), j::digest);
+        CHECK.same("25: an unreadable order", Journals.digestDue(j, 0, 4), j::digest);
         j.link(1, false);
         j.undo();
         j.link(0, false);
-        CHECK.same("25: a lost link", digestOf(j, 4, 4), j::digest);
-        CHECK.same("25: asking again", j.digest(), j::digest);
-    }
-
-    /** The digest as the document spells it out, from the answers of the other calls. */
-    private static long digestOf(ShipJournal j, int textLength, int savedStates) {
-        StringBuilder values = new StringBuilder();
-        values.append(textLength);
-        for (int what = 0; what <= 6; what++) {
-            values.append(' ').append(j.value(what));
-        }
-        for (int position = j.value(1); position < j.value(2); position++) {
-            for (int what = 0; what <= 5; what++) {
-                values.append(' ').append(j.order(position, what));
-            }
-        }
-        for (int ship = 0; ship <= 1; ship++) {
-            for (int what = 0; what <= 5; what++) {
-                values.append(' ').append(j.ship(ship, what));
-            }
-            for (int hold = 0; hold <= 7; hold++) {
-                values.append(' ').append(j.hold(ship, hold));
-            }
-        }
-        values.append(' ').append(j.ahead(0)).append(' ').append(j.ahead(1)).append(' ').append(j.agree());
-        for (int hold = 0; hold <= 7; hold++) {
-            values.append(' ').append(j.tonsAt(j.value(2), hold));
-        }
-        values.append(' ').append(savedStates);
-        long h = 3797;
-        for (String value : values.toString().split(" ")) {
-            h = 31 * h + Long.parseLong(value);
-        }
-        return h;
+        CHECK.same("25: a lost link", Journals.digestDue(j, 0, 4), j::digest);
     }
 }

@@ -2,8 +2,8 @@
 public final class ValuePromisesTest {
     private static final Class<?> ARGUMENT = IllegalArgumentException.class;
     private static final Class<?> INDEX = IndexOutOfBoundsException.class;
-    private static final int[] NO_SHIPS = {-1, 2, 3, Integer.MIN_VALUE, Integer.MAX_VALUE};
-    private static final int[] NO_HOLDS = {-1, 8, Integer.MIN_VALUE, Integer.MAX_VALUE};
+    private static final int[] NO_SHIPS = Journals.NO_SHIPS;
+    private static final int[] NO_HOLDS = Journals.NO_HOLDS;
 
     private static final Check CHECK = new Check();
 
@@ -20,20 +20,6 @@ public final class ValuePromisesTest {
         promise20();
         askingChangesNothing();
         CHECK.close("ValuePromisesTest");
-    }
-
-    /** Loads of 1, 2, 3, .. tons into the hold 0. */
-    private static ShipJournal withLoads(int count) {
-        ShipJournal j = new ShipJournal();
-        for (int i = 0; i < count; i++) {
-            j.write(0, 0, 0, i + 1);
-        }
-        return j;
-    }
-
-    private static void spoilBoth(ShipJournal j, int position) {
-        j.spoil(position, 0);
-        j.spoil(position, 1);
     }
 
     private static void promise10() {
@@ -75,7 +61,7 @@ public final class ValuePromisesTest {
     }
 
     private static void promise11() {
-        ShipJournal j = withLoads(5);
+        ShipJournal j = Journals.withLoads(5);
         j.write(0, 7, 0, 50);
         j.replay(1, 6);
         j.crash(1);
@@ -131,8 +117,8 @@ public final class ValuePromisesTest {
         j.spoil(2, 0);
         j.repair();
         j.spoil(0, 0);
-        spoilBoth(j, 3);
-        spoilBoth(j, 6);
+        Journals.spoilBoth(j, 3);
+        Journals.spoilBoth(j, 6);
         j.spoil(5, 1);
         j.snapshot(0);
         j.snapshot(1);
@@ -161,8 +147,8 @@ public final class ValuePromisesTest {
         CHECK.same("14: one sound copy is enough", 5, () -> j.ahead(0));
         CHECK.same("15: one sound copy is enough", 8, () -> j.stop(0));
         j.spoil(4, 1);
-        spoilBoth(j, 6);
-        spoilBoth(j, 2);
+        Journals.spoilBoth(j, 6);
+        Journals.spoilBoth(j, 2);
         CHECK.same("14: up to the first unreadable one", 1, () -> j.ahead(0));
         CHECK.same("14: an earlier position", 2, () -> j.ahead(1));
         CHECK.same("15: from its position on", 4, () -> j.stop(0));
@@ -186,7 +172,7 @@ public final class ValuePromisesTest {
     }
 
     private static void promise16() {
-        ShipJournal j = withLoads(8);
+        ShipJournal j = Journals.withLoads(8);
         CHECK.same("16: at the start", 0, () -> j.tonsAt(0, 0));
         CHECK.same("16: behind 3 orders", 6, () -> j.tonsAt(3, 0));
         CHECK.same("16: at the newer end", 36, () -> j.tonsAt(8, 0));
@@ -203,7 +189,7 @@ public final class ValuePromisesTest {
         CHECK.same("16: before the slower snapshot", -1, () -> j.tonsAt(1, 0));
         CHECK.same("16: at the slower snapshot", 3, () -> j.tonsAt(2, 0));
         CHECK.same("16: from the slower snapshot on", 36, () -> j.tonsAt(8, 0));
-        spoilBoth(j, 3);
+        Journals.spoilBoth(j, 3);
         CHECK.same("16: before the unreadable one", 6, () -> j.tonsAt(3, 0));
         CHECK.same("16: an unreadable one, also before the faster snapshot", -1, () -> j.tonsAt(6, 0));
         CHECK.same("16: just behind the unreadable one", -1, () -> j.tonsAt(4, 0));
@@ -214,14 +200,14 @@ public final class ValuePromisesTest {
             CHECK.refuses(j, "16: tonsAt(3, " + hold + ")", INDEX, () -> j.tonsAt(3, hold));
             CHECK.refuses(j, "16: no hold, before NONE", INDEX, () -> j.tonsAt(-1, hold));
         }
-        ShipJournal k = withLoads(4);
+        ShipJournal k = Journals.withLoads(4);
         k.replay(1, 3);
         k.snapshot(1);
         CHECK.same("16: ship 0 is the slower one", 1, () -> k.tonsAt(1, 0));
     }
 
     private static void promise17() {
-        ShipJournal j = withLoads(6);
+        ShipJournal j = Journals.withLoads(6);
         CHECK.same("17: both at the start", 1, j::agree);
         j.replay(0, 4);
         CHECK.same("17: ship 1 behind", 1, j::agree);
@@ -237,20 +223,20 @@ public final class ValuePromisesTest {
         j.repair();
         CHECK.same("17: repaired", 1, j::agree);
         j.replay(1, 9);
-        spoilBoth(j, 4);
+        Journals.spoilBoth(j, 4);
         CHECK.same("17: ship 0 behind", -1, j::agree);
         j.replay(0, 9);
         j.crash(1);
-        spoilBoth(j, 5);
+        Journals.spoilBoth(j, 5);
         CHECK.same("17: spoiled ones beyond both do not count", 1, () -> {
             j.repair();
-            spoilBoth(j, 5);
+            Journals.spoilBoth(j, 5);
             return j.agree();
         });
     }
 
     private static void promise18() {
-        ShipJournal j = withLoads(6);
+        ShipJournal j = Journals.withLoads(6);
         CHECK.same("18: nothing is replayed", 2, () -> j.roomBy(0));
         j.replay(0, 4);
         CHECK.same("18: the other snapshot holds", 2, () -> j.roomBy(0));
@@ -273,7 +259,7 @@ public final class ValuePromisesTest {
     }
 
     private static void promise19() {
-        ShipJournal j = withLoads(6);
+        ShipJournal j = Journals.withLoads(6);
         CHECK.same("19: both the same", 2, j::slower);
         j.replay(0, 4);
         CHECK.same("19: positions do not count", 2, j::slower);
@@ -305,11 +291,11 @@ public final class ValuePromisesTest {
     }
 
     private static void askingChangesNothing() {
-        ShipJournal j = withLoads(5);
+        ShipJournal j = Journals.withLoads(5);
         j.replay(0, 4);
         j.snapshot(0);
         j.replay(1, 2);
-        spoilBoth(j, 4);
+        Journals.spoilBoth(j, 4);
         long before = j.digest();
         for (int ship = 0; ship < 2; ship++) {
             j.ahead(ship);
