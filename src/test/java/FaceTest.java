@@ -8,6 +8,8 @@ import java.nio.file.Files;
 import java.nio.file.Path;
 import java.util.Set;
 import java.util.TreeSet;
+import java.util.regex.Matcher;
+import java.util.regex.Pattern;
 
 /** The public face of the document, and those rules of LANGUAGE.md that can be told from outside. */
 public final class FaceTest {
@@ -42,6 +44,15 @@ public final class FaceTest {
             "long digest()");
     private static final String[] RULED_OUT = {"package ", "import ", "->", "::", "catch", "finally", "static {",
         "synchronized", "assert", "protected ", "System.out", "Random", "Thread", "nanoTime", "currentTimeMillis"};
+    private static final Set<String> LIBRARY =
+            Set.of("Math.min", "Math.max", "Integer.bitCount", "System.arraycopy");
+    private static final Pattern LIBRARY_CALL = Pattern.compile("\\b[A-Z][a-z]\\w*\\.\\w+");
+    private static final Pattern METHOD =
+            Pattern.compile("(?ms)^( {4}| {8})(?! )[^\\n;{}]*\\([^;{}]*\\{\\n.*?^\\1}$");
+    private static final int MOST_CLASSES = 12;
+    private static final int MOST_FIELDS = 20;
+    private static final int MOST_PARAMETERS = 7;
+    private static final int MOST_LINES = 60;
 
     private static final Check CHECK = new Check();
 
@@ -49,7 +60,11 @@ public final class FaceTest {
         methodsAreTheFace();
         constantAndConstructor();
         nothingElseIsVisible();
-        sourceKeepsToTheRules();
+        classesKeepToTheRules();
+        String source = Files.readString(SOURCE, StandardCharsets.US_ASCII);
+        sourceKeepsToTheRules(source);
+        methodsAreShort(source);
+        callsMakeNoObject(source);
         CHECK.close("FaceTest");
     }
 
@@ -116,10 +131,55 @@ public final class FaceTest {
         }
     }
 
-    private static void sourceKeepsToTheRules() throws IOException {
-        String source = Files.readString(SOURCE, StandardCharsets.US_ASCII);
+    private static void classesKeepToTheRules() {
+        Class<?>[] inside = ShipJournal.class.getDeclaredClasses();
+        CHECK.holds("rule 11: so many classes", inside.length + 1 <= MOST_CLASSES);
+        classKeepsToTheRules(ShipJournal.class);
+        for (Class<?> c : inside) {
+            CHECK.holds("rule 2: " + c.getSimpleName() + " is static", Modifier.isStatic(c.getModifiers()));
+            classKeepsToTheRules(c);
+        }
+    }
+
+    private static void classKeepsToTheRules(Class<?> c) {
+        int fields = 0;
+        for (Field f : c.getDeclaredFields()) {
+            boolean constant = Modifier.isStatic(f.getModifiers());
+            fields += constant ? 0 : 1;
+            CHECK.holds("rule 5: " + f.getName() + " is final", !constant || Modifier.isFinal(f.getModifiers()));
+        }
+        CHECK.holds("rule 11: fields of " + c.getSimpleName(), fields <= MOST_FIELDS);
+        for (Method m : c.getDeclaredMethods()) {
+            CHECK.holds("rule 11: parameters of " + m.getName(), m.getParameterCount() <= MOST_PARAMETERS);
+        }
+    }
+
+    private static void sourceKeepsToTheRules(String source) {
         for (String word : RULED_OUT) {
             CHECK.holds("the source has no \"" + word + "\"", !source.contains(word));
         }
+        Matcher calls = LIBRARY_CALL.matcher(source);
+        while (calls.find()) {
+            CHECK.holds("rule 4: " + calls.group(), LIBRARY.contains(calls.group()));
+        }
+    }
+
+    /** By indentation: from a line that begins a method to the brace that stands right below it. */
+    private static void methodsAreShort(String source) {
+        Matcher methods = METHOD.matcher(source);
+        int found = 0;
+        while (methods.find()) {
+            found++;
+            String head = methods.group().strip().lines().findFirst().orElse("");
+            CHECK.holds("rule 11: too long is " + head, methods.group().lines().count() <= MOST_LINES);
+        }
+        CHECK.holds("the methods are found", found > FACE.size());
+    }
+
+    /** All calls of a run share one room: rows are made with the object, and used again. */
+    private static void callsMakeNoObject(String source) {
+        long made = source.lines().filter(line -> line.contains("new "))
+                .filter(line -> !line.contains("throw new ") && !line.contains("final ")).count();
+        CHECK.same("rule 12: the constructor's loop alone makes objects", 1, () -> made);
     }
 }

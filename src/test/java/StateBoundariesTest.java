@@ -114,17 +114,6 @@ public final class StateBoundariesTest {
         c.same("the text is whole", 1, j::carryOut);
     }
 
-    /** The tool that the cases above rest on: it tells a change that the digest alone does not. */
-    static void theTrailTellsADroppedState(Check c) {
-        ShipJournal j = busy();
-        j.crash(0);
-        j.undo();
-        c.same("its digest is that of three saved states", Journals.digestDue(j, 100, 3), j::digest);
-        ShipJournal k = busy();
-        k.undo();
-        c.holds("the oldest state is another one", !trail(j).equals(trail(k)));
-    }
-
     // ---- calls that are not undoable save nothing
 
     static void askingSavesNothing(Check c) {

@@ -492,6 +492,7 @@ public final class ValueBoundariesTest {
             ShipJournal j = Journals.withLoads(8);
             j.replay(1 - s, 4);
             j.snapshot(1 - s);
+            j.replay(1 - s, 2);
             for (int position = 0; position <= 8; position++) {
                 c.same("ship " + s + " at " + position, Math.min(position, 4), () -> j.roomBy(s));
                 j.replay(s, 1);
