@@ -36,6 +36,24 @@ final class Journals {
         }
     }
 
+    /** Spoils this set of copies: bit c for the copy c. */
+    static void spoilSet(ShipJournal j, int position, int copies) {
+        for (int copy = 0; copy < 2; copy++) {
+            if ((copies >> copy & 1) == 1) {
+                j.spoil(position, copy);
+            }
+        }
+    }
+
+    /** Loses the link of each ship that is not in this set: bit s for the ship s. */
+    static void keepLinks(ShipJournal j, int ships) {
+        for (int ship = 0; ship < 2; ship++) {
+            if ((ships >> ship & 1) == 0) {
+                j.link(ship, false);
+            }
+        }
+    }
+
     static void spoilBoth(ShipJournal j, int position) {
         j.spoil(position, 0);
         j.spoil(position, 1);
@@ -47,6 +65,44 @@ final class Journals {
             j.replay(ship, orders);
             j.snapshot(ship);
         }
+    }
+
+    /**
+     * Four loads, as withLoads writes them; each ship has taken its snapshot and gone on to its position. A ship that
+     * has gone on did so twice, with a crash between, so that it has replayed more orders than its position tells.
+     */
+    static ShipJournal withShips(int snapshot0, int position0, int snapshot1, int position1) {
+        ShipJournal j = withLoads(4);
+        bring(j, 0, snapshot0, position0);
+        bring(j, 1, snapshot1, position1);
+        return j;
+    }
+
+    private static void bring(ShipJournal j, int ship, int snapshot, int position) {
+        if (snapshot > 0) {
+            j.replay(ship, snapshot);
+            j.snapshot(ship);
+        }
+        if (position > snapshot) {
+            j.replay(ship, position - snapshot);
+            j.crash(ship);
+            j.replay(ship, position - snapshot);
+        }
+    }
+
+    /** The orders that such a ship has replayed. */
+    static int replayedUpTo(int snapshot, int position) {
+        return 2 * position - snapshot;
+    }
+
+    /** The crashes of such a ship. */
+    static int crashesUpTo(int snapshot, int position) {
+        return position > snapshot ? 1 : 0;
+    }
+
+    /** What withLoads leaves in the hold 0 behind so many orders. */
+    static int tonsBehind(int orders) {
+        return orders * (orders + 1) / 2;
     }
 
     /** A ring of 32 places whose ship 0 has these tons in the holds 0 and 1; 22 orders at most are written. */
@@ -104,6 +160,24 @@ final class Journals {
             int w = i;
             check.same(what + ", ship(" + ship + ", " + w + ")", values[w], () -> j.ship(ship, w));
         }
+    }
+
+    /**
+     * A ring of 32 places, all taken by orders that differ; 10, 20, .. 80 tons in the holds of ship 0 and in both
+     * snapshots; ship 1 has replayed 20 of the orders.
+     */
+    static ShipJournal rich() {
+        ShipJournal j = ofPlaces(32);
+        for (int i = 0; i < 8; i++) {
+            j.write(0, i, 0, 10 * (i + 1));
+        }
+        free(j, 8);
+        for (int i = 0; i < 32; i++) {
+            j.write(i % 5, i % 8, (i + 3) % 8, 60 + i);
+        }
+        j.replay(1, 20);
+        j.spoil(39, 0);
+        return j;
     }
 
     /** The digest as the document spells it out, from the answers of the other calls. */

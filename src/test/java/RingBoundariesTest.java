@@ -133,6 +133,17 @@ public final class RingBoundariesTest {
         c.refuses(j, "a fifth one", STATE, () -> j.write(0, 0, 0, 1));
     }
 
+    static void beginEmptiesEachHoldOfShipsAndSnapshots(Check c) {
+        ShipJournal j = Journals.rich();
+        j.begin(8);
+        for (int s = 0; s < 2; s++) {
+            int ship = s;
+            Journals.holdsAre(c, "ship " + ship, j, ship, 0, 0, 0, 0, 0, 0, 0, 0);
+            c.same("no fall", 0, () -> j.crash(ship));
+            Journals.holdsAre(c, "snapshot of ship " + ship, j, ship, 0, 0, 0, 0, 0, 0, 0, 0);
+        }
+    }
+
     static void beginMakesTheShipsAsAtFirst(Check c) {
         ShipJournal j = Journals.withLoads(8);
         Journals.free(j, 3);
@@ -471,6 +482,32 @@ public final class RingBoundariesTest {
             j.link(1 - ship, false);
             c.same("its link is up, the other one's is lost", 2, j::repair);
         }
+    }
+
+    /** Order 1 with each set of spoiled copies, each set of links that are up, each position up to 2 of both ships. */
+    static void repairGoesByCopiesLinksAndPositions(Check c) {
+        for (int copies = 0; copies < 4; copies++) {
+            for (int links = 0; links < 4; links++) {
+                for (int p0 = 0; p0 <= 2; p0++) {
+                    for (int p1 = 0; p1 <= 2; p1++) {
+                        repairsOrderOne(c, copies, links, p0, p1);
+                    }
+                }
+            }
+        }
+    }
+
+    private static void repairsOrderOne(Check c, int copies, int links, int position0, int position1) {
+        ShipJournal j = Journals.withShips(0, position0, 0, position1);
+        Journals.spoilSet(j, 1, copies);
+        Journals.keepLinks(j, links);
+        boolean known = position0 == 2 && (links & 1) == 1 || position1 == 2 && (links & 2) == 2;
+        boolean repaired = copies != 3 || known;
+        int count = repaired ? Integer.bitCount(copies) : 0;
+        String what = "copies " + copies + ", links " + links + ", positions " + position0 + " and " + position1;
+        c.same(what, count, j::repair);
+        c.same(what + ", spoiled still", repaired ? 0 : 3, () -> j.order(1, 4));
+        Journals.valuesAre(c, what, j, 8, 0, 4, 4, repaired ? 0 : 2, repaired ? 0 : 1, count);
     }
 
     static void repairCountsNoShipThatFellBackBeforeTheOrder(Check c) {

@@ -110,6 +110,38 @@ public final class ShipBoundariesTest {
         Journals.holdsAre(c, "the other ship", j, 0, 0, 0, 0, 0, 0, 0, 0, 0);
     }
 
+    /** Each kind with each hold a and each hold b: the other holds keep their tons. */
+    static void ordersReachTheirOwnHoldsAlone(Check c) {
+        for (int kind = 0; kind <= 4; kind++) {
+            for (int a = 0; a < 8; a++) {
+                for (int b = 0; b < 8; b++) {
+                    if (kind < 2 || a != b) {
+                        reachesItsOwnHoldsAlone(c, kind, a, b);
+                    }
+                }
+            }
+        }
+    }
+
+    /** The holds start with 11, 22, .. 88 tons, so that each sum of two tells its holds. */
+    private static void reachesItsOwnHoldsAlone(Check c, int kind, int a, int b) {
+        int[] tons = new int[8];
+        ShipJournal j = Journals.ofPlaces(9);
+        for (int hold = 0; hold < 8; hold++) {
+            tons[hold] = 11 * (hold + 1);
+            j.write(0, hold, 0, tons[hold]);
+        }
+        j.write(kind, a, b, 5);
+        int both = tons[a] + tons[b];
+        int[] becomesA = {tons[a] + 5, tons[a] - 5, tons[a] - 5, tons[b], both - both / 2};
+        int[] becomesB = {tons[b], tons[b], tons[b] + 5, tons[a], both / 2};
+        tons[b] = becomesB[kind];
+        tons[a] = becomesA[kind];
+        String what = "kind " + kind + ", a " + a + ", b " + b;
+        c.same(what, 9, () -> j.replay(1, 9));
+        Journals.holdsAre(c, what, j, 1, tons);
+    }
+
     // ---- 6: replay
 
     static void replayTakesTheShipsZeroAndOne(Check c) {
@@ -184,6 +216,37 @@ public final class ShipBoundariesTest {
             c.same("its position", 0, () -> j.ship(s, 0));
             c.same("the other ship", 2, () -> j.replay(1 - s, 99));
         }
+    }
+
+    /** Order 2 with each set of spoiled copies, each set of links that are up, each position of both ships. */
+    static void replayGoesByCopiesLinksAndPositions(Check c) {
+        for (int copies = 0; copies < 4; copies++) {
+            for (int links = 0; links < 4; links++) {
+                for (int p0 = 0; p0 <= 4; p0++) {
+                    for (int p1 = 0; p1 <= 4; p1++) {
+                        replaysAsFarAs(c, 0, copies, links, new int[] {p0, p1});
+                        replaysAsFarAs(c, 1, copies, links, new int[] {p0, p1});
+                    }
+                }
+            }
+        }
+    }
+
+    private static void replaysAsFarAs(Check c, int ship, int copies, int links, int[] positions) {
+        ShipJournal j = Journals.withShips(0, positions[0], 0, positions[1]);
+        Journals.spoilSet(j, 2, copies);
+        Journals.keepLinks(j, links);
+        int stop = copies == 3 && positions[ship] <= 2 ? 2 : 4;
+        int count = (links >> ship & 1) == 1 ? stop - positions[ship] : 0;
+        int position = positions[ship] + count;
+        String what = "ship " + ship + ", copies " + copies + ", links " + links
+                + ", positions " + positions[0] + " and " + positions[1];
+        c.same(what + ", stop", stop, () -> j.stop(ship));
+        c.same(what + ", ahead", count, () -> j.ahead(ship));
+        c.same(what + ", replay", count, () -> j.replay(ship, 99));
+        Journals.shipIs(c, what, j, ship, position, 0, links >> ship & 1, Journals.tonsBehind(position),
+                Journals.replayedUpTo(0, positions[ship]) + count, Journals.crashesUpTo(0, positions[ship]));
+        c.same(what + ", the other one", positions[1 - ship], () -> j.ship(1 - ship, 0));
     }
 
     static void replayOfAWholeRing(Check c) {
@@ -265,6 +328,37 @@ public final class ShipBoundariesTest {
         j.replay(1, 5);
         c.same("ship 1 has none yet", 0, () -> j.snapshot(0));
         c.same("both have one", 5, () -> j.snapshot(1));
+    }
+
+    /** Each snapshot and each position up to four, of both ships: what a snapshot frees, how far a crash falls. */
+    static void snapshotAndCrashGoByTheirOwnPositions(Check c) {
+        for (int s0 = 0; s0 <= 4; s0++) {
+            for (int p0 = s0; p0 <= 4; p0++) {
+                for (int s1 = 0; s1 <= 4; s1++) {
+                    for (int p1 = s1; p1 <= 4; p1++) {
+                        oneShipsPositions(c, 0, new int[] {s0, s1}, new int[] {p0, p1});
+                        oneShipsPositions(c, 1, new int[] {s0, s1}, new int[] {p0, p1});
+                    }
+                }
+            }
+        }
+    }
+
+    private static void oneShipsPositions(Check c, int ship, int[] snapshots, int[] positions) {
+        ShipJournal j = Journals.withShips(snapshots[0], positions[0], snapshots[1], positions[1]);
+        String what = "ship " + ship + ", snapshots " + snapshots[0] + " and " + snapshots[1]
+                + ", positions " + positions[0] + " and " + positions[1];
+        int olderEnd = Math.min(snapshots[0], snapshots[1]);
+        int freed = Math.min(positions[ship], snapshots[1 - ship]) - olderEnd;
+        c.same(what + ", snapshot", freed, () -> j.snapshot(ship));
+        c.same(what + ", older end", olderEnd + freed, () -> j.value(1));
+        c.same(what + ", position of the snapshot", positions[ship], () -> j.ship(ship, 1));
+        c.same(what + ", that of the other one", snapshots[1 - ship], () -> j.ship(1 - ship, 1));
+        j.undo();
+        c.same(what + ", crash", positions[ship] - snapshots[ship], () -> j.crash(ship));
+        c.same(what + ", older end behind a crash", olderEnd, () -> j.value(1));
+        c.same(what + ", tons", Journals.tonsBehind(snapshots[ship]), () -> j.hold(ship, 0));
+        c.same(what + ", tons of the other one", Journals.tonsBehind(positions[1 - ship]), () -> j.hold(1 - ship, 0));
     }
 
     static void snapshotAgainFreesNothing(Check c) {

@@ -286,6 +286,52 @@ public final class StateBoundariesTest {
         Journals.valuesAre(c, "before begin", j, 8, 0, 1, 1, 1, 0, 0);
     }
 
+    /** The new ring takes all 32 places before it is undone. */
+    static void undoRestoresEachPlaceOfTheLargestRing(Check c) {
+        ShipJournal j = Journals.rich();
+        j.begin(32);
+        Journals.put(j, "v76,1;".repeat(16));
+        c.same("16 orders", 16, j::carryOut);
+        c.same("32 orders", 16, j::carryOut);
+        for (int u = 0; u < 3; u++) {
+            j.undo();
+        }
+        for (int i = 0; i < 32; i++) {
+            int kind = i % 5;
+            Journals.orderIs(c, "restored", j, 8 + i, kind, i % 8, kind < 2 ? 0 : (i + 3) % 8, 60 + i,
+                    i == 31 ? 1 : 0, i < 20 ? 2 : 0);
+        }
+    }
+
+    static void undoRestoresEachHoldOfShipsAndSnapshots(Check c) {
+        ShipJournal j = Journals.rich();
+        int[] tons = new int[8];
+        for (int h = 0; h < 8; h++) {
+            tons[h] = j.hold(1, h);
+        }
+        j.begin(8);
+        c.same("all holds are empty", 0, () -> j.ship(1, 3));
+        c.same("undo", 3, j::undo);
+        Journals.holdsAre(c, "ship 0", j, 0, 10, 20, 30, 40, 50, 60, 70, 80);
+        Journals.holdsAre(c, "ship 1", j, 1, tons);
+        c.same("ship 0 falls by nothing", 0, () -> j.crash(0));
+        c.same("ship 1 falls", 20, () -> j.crash(1));
+        Journals.holdsAre(c, "snapshot of ship 0", j, 0, 10, 20, 30, 40, 50, 60, 70, 80);
+        Journals.holdsAre(c, "snapshot of ship 1", j, 1, 10, 20, 30, 40, 50, 60, 70, 80);
+    }
+
+    /** Behind a crash a ship has replayed more orders than its position tells: each comes back for itself. */
+    static void undoRestoresPositionsBehindCrashes(Check c) {
+        for (int s = 0; s < 2; s++) {
+            int ship = s;
+            ShipJournal j = Journals.withShips(1, 3, 1, 3);
+            c.same("ship " + ship, 2, () -> j.crash(ship));
+            Journals.shipIs(c, "crashed", j, ship, 1, 1, 1, 1, 5, 2);
+            c.same("undo", 3, j::undo);
+            Journals.shipIs(c, "restored", j, ship, 3, 1, 1, 6, 5, 1);
+        }
+    }
+
     static void undoRestoresPlacesAndRepairedCopies(Check c) {
         ShipJournal j = Journals.withLoads(3);
         j.spoil(1, 1);

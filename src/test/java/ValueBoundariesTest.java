@@ -306,6 +306,23 @@ public final class ValueBoundariesTest {
         c.same("the unreadable one", 4, () -> j.stop(1));
     }
 
+    /** The positions are far greater than the places then. */
+    static void stopIsFoundAroundTheRing(Check c) {
+        for (int places = 4; places <= 32; places++) {
+            ShipJournal j = Journals.full(places);
+            Journals.free(j, 3);
+            Journals.loads(j, 3);
+            Journals.free(j, 2);
+            int last = places + 2;
+            c.same("nothing is in the way in " + places, last + 1, () -> j.stop(0));
+            c.same("ahead in " + places, places - 2, () -> j.ahead(0));
+            Journals.spoilBoth(j, last);
+            c.same("the last one of " + places, last, () -> j.stop(0));
+            c.same("ahead of it in " + places, places - 3, () -> j.ahead(1));
+            c.same("replayed up to it in " + places, places - 3, () -> j.replay(1, 99));
+        }
+    }
+
     /** In a full ring of 32 places the newer end's place is that of the oldest order. */
     static void stopTakesNoPlaceForItsNextTurn(Check c) {
         ShipJournal j = Journals.full(32);
@@ -537,6 +554,57 @@ public final class ValueBoundariesTest {
         j.replay(1, 1);
         j.snapshot(1);
         c.same("ship 0, one order behind", 0, j::slower);
+    }
+
+    // ---- 10 to 19 for ships that stand apart
+
+    /** Each snapshot and each position up to four, of both ships: which of them an answer goes by. */
+    static void valuesGoByTheRightSnapshotsAndPositions(Check c) {
+        for (int s0 = 0; s0 <= 4; s0++) {
+            for (int p0 = s0; p0 <= 4; p0++) {
+                for (int s1 = 0; s1 <= 4; s1++) {
+                    for (int p1 = s1; p1 <= 4; p1++) {
+                        shipsStandApart(c, new int[] {s0, s1}, new int[] {p0, p1});
+                    }
+                }
+            }
+        }
+    }
+
+    private static void shipsStandApart(Check c, int[] snapshots, int[] positions) {
+        ShipJournal j = Journals.withShips(snapshots[0], positions[0], snapshots[1], positions[1]);
+        String what = "snapshots " + snapshots[0] + " and " + snapshots[1]
+                + ", positions " + positions[0] + " and " + positions[1];
+        int olderEnd = Math.min(snapshots[0], snapshots[1]);
+        Journals.valuesAre(c, what, j, 8, olderEnd, 4, 4 - olderEnd, 0, 0, 0);
+        for (int s = 0; s < 2; s++) {
+            int ship = s;
+            Journals.shipIs(c, what + ", ship " + ship, j, ship, positions[ship], snapshots[ship], 1,
+                    Journals.tonsBehind(positions[ship]), Journals.replayedUpTo(snapshots[ship], positions[ship]),
+                    Journals.crashesUpTo(snapshots[ship], positions[ship]));
+            c.same(what + ", ahead", 4 - positions[ship], () -> j.ahead(ship));
+            c.same(what + ", stop", 4, () -> j.stop(ship));
+            int kept = 4 - Math.min(positions[ship], snapshots[1 - ship]);
+            c.same(what + ", room by " + ship, 8 - kept, () -> j.roomBy(ship));
+        }
+        for (int p = -1; p <= 5; p++) {
+            int position = p;
+            int tons = p < olderEnd || p > 4 ? ShipJournal.NONE : Journals.tonsBehind(p);
+            c.same(what + ", tons at " + p, tons, () -> j.tonsAt(position, 0));
+        }
+        int slower = snapshots[0] == snapshots[1] ? 2 : snapshots[0] < snapshots[1] ? 0 : 1;
+        c.same(what + ", slower", slower, j::slower);
+        c.same(what + ", agree", 1, j::agree);
+        c.sameDouble(what + ", fullness", (4 - olderEnd) / 8.0, j::fullness);
+        replayedBy(c, what, j, olderEnd, positions);
+    }
+
+    private static void replayedBy(Check c, String what, ShipJournal j, int olderEnd, int[] positions) {
+        for (int p = olderEnd; p < 4; p++) {
+            int position = p;
+            int ships = (positions[0] > p ? 1 : 0) + (positions[1] > p ? 2 : 0);
+            c.same(what + ", ships behind the order " + p, ships, () -> j.order(position, 5));
+        }
     }
 
     // ---- 20: fullness
