@@ -176,7 +176,8 @@ final class Journals {
             j.write(i % 5, i % 8, (i + 3) % 8, 60 + i);
         }
         j.replay(1, 20);
-        j.spoil(39, 0);
+        j.spoil(31, 0);
+        j.spoil(39, 1);
         return j;
     }
 
